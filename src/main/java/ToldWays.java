@@ -27,7 +27,8 @@ public final class ToldWays {
     private final Reader reader;
     private final Land land;
     private final Path path;
-    private final Guides guides;
+    /** By the PLACE that is wanted, so that many strangers who want to the same one are answered once. */
+    private final Guides[] guides;
     private final Lessons lessons;
     private final Draws draws;
     private final Journal journal;
@@ -39,8 +40,11 @@ public final class ToldWays {
         reader = new Reader();
         land = new Land();
         path = new Path();
-        guides = new Guides(land, path);
-        lessons = new Lessons(land, guides);
+        guides = new Guides[MOST_PLACES];
+        for (int t = 0; t < guides.length; t++) {
+            guides[t] = new Guides(land, path);
+        }
+        lessons = new Lessons(land, new Guides(land, path));
         draws = new Draws();
         journal = new Journal();
         images = new Image[IMAGES];
@@ -212,13 +216,13 @@ public final class ToldWays {
         if (what < 0 || what > 3) {
             return OUTSIDE;
         }
-        guides.gather(t, own, law);
-        guides.lead(a, t, null);
+        Guides to = gathered(t, own);
+        to.lead(a, t, null);
         switch (what) {
-            case 0: return guides.minutesGone;
-            case 1: return guides.place;
-            case 2: return guides.place == t ? 0 : 1;
-            default: return guides.leaders;
+            case 0: return to.minutesGone;
+            case 1: return to.place;
+            case 2: return to.place == t ? 0 : 1;
+            default: return to.leaders;
         }
     }
 
@@ -226,19 +230,18 @@ public final class ToldWays {
         if (!land.hasPlace(a) || !land.hasPlace(t)) {
             return UNKNOWN;
         }
-        guides.gather(t, false, law);
-        return guides.fewestMinutes(a, t);
+        return gathered(t, false).fewestMinutes(a, t);
     }
 
     public int guide(int a, int t, int i) {
         if (!land.hasPlace(a) || !land.hasPlace(t)) {
             return UNKNOWN;
         }
-        guides.gather(t, false, law);
-        if (guides.fewestMinutes(a, t) == NONE) {
+        Guides to = gathered(t, false);
+        if (to.fewestMinutes(a, t) == NONE) {
             return NONE;
         }
-        return i == NONE ? guides.fewestGuides(a) : guides.bestGuide(a, t, i);
+        return i == NONE ? to.fewestGuides(a) : to.bestGuide(a, t, i);
     }
 
     public int lot(int a, int t, int what) {
@@ -248,12 +251,12 @@ public final class ToldWays {
         if (what < 0 || what > 2) {
             return OUTSIDE;
         }
-        guides.gather(t, false, law);
-        guides.lots(a, t);
+        Guides to = gathered(t, false);
+        to.lots(a, t);
         switch (what) {
-            case 0: return guides.lostOdds;
-            case 1: return guides.longest;
-            default: return (int) (guides.sum / MILLION);
+            case 0: return to.lostOdds;
+            case 1: return to.longest;
+            default: return (int) (to.sum / MILLION);
         }
     }
 
@@ -365,14 +368,16 @@ public final class ToldWays {
         if (land.places == 0) {
             return NOT;
         }
-        int come = 0, minutes = 0;
+        int come = 0, minutes = 0, heard = 0;
         for (int i = 0; i < n; i++) {
             int a = draws.next(land.places), t = draws.next(land.places);
-            guides.gather(t, false, law);
-            guides.lead(a, t, draws);
-            if (guides.place == t) {
+            // What PERSONS SAY stays as it is while strangers go.
+            Guides to = (heard >> t & 1) == 1 ? guidesTo(t) : gathered(t, false);
+            heard |= 1 << t;
+            to.lead(a, t, draws);
+            if (to.place == t) {
                 come++;
-                minutes += guides.minutesGone;
+                minutes += to.minutesGone;
             }
         }
         return what == 0 ? come : minutes;
@@ -428,6 +433,17 @@ public final class ToldWays {
     private int farBetween(int a, int b) {
         path.seek(land, (1 << land.ways) - 1, a, b);
         return path.pieces == NONE ? NONE : path.minutesTo(path.pieces);
+    }
+
+    private Guides guidesTo(int t) {
+        return guides[t >= 0 && t < guides.length ? t : 0];
+    }
+
+    /** Where PERSONS lead one who wants to t, as things are now. */
+    private Guides gathered(int t, boolean own) {
+        Guides to = guidesTo(t);
+        to.gather(t, own, law);
+        return to;
     }
 
     /** Minutes to w, if the PERSON, asked for t at a, takes one there by its OWN ANSWER; NONE. */
@@ -762,15 +778,13 @@ public final class ToldWays {
             for (int round = 0; round < MOST_PLACES && closer; round++) {
                 closer = false;
                 for (int w = 0; w < land.ways; w++) {
-                    int from = at(land.wayFrom, w), to = at(land.wayTo, w);
-                    int piece = at(land.wayMinutes, w) * KEY + 1;
-                    boolean is = (known >> w & 1) == 1;
-                    if (is && at(keys, to) + piece < at(keys, from)) {
-                        put(keys, from, at(keys, to) + piece);
-                        closer = true;
-                    } else if (is && at(keys, from) + piece < at(keys, to)) {
-                        put(keys, to, at(keys, from) + piece);
-                        closer = true;
+                    if ((known >> w & 1) == 1) {
+                        int from = at(land.wayFrom, w), to = at(land.wayTo, w), piece = at(land.wayMinutes, w) * KEY + 1;
+                        int keyFrom = Math.min(at(keys, from), at(keys, to) + piece);
+                        int keyTo = Math.min(at(keys, to), keyFrom + piece);
+                        closer = closer || keyFrom < at(keys, from) || keyTo < at(keys, to);
+                        put(keys, from, keyFrom);
+                        put(keys, to, keyTo);
                     }
                 }
             }

@@ -156,6 +156,13 @@ final class LandTests {
         fault(tally, " person 0 0 0 first;", 1, 1);
         fault(tally, "placess 2;", 1, 0);
         fault(tally, "place 2;", 1, 0);
+        fault(tally, "xlaces 2;", 1, 0);
+        fault(tally, "placesz 2;", 1, 0);
+        fault(tally, "placesa 2;", 1, 0);
+        fault(tally, "places{2;", 1, 6);
+        fault(tally, "places`2;", 1, 6);
+        fault(tally, "places 2/", 1, 8);
+        fault(tally, "places 2:", 1, 8);
         fault(tally, "pla ces 2;", 1, 0);
         fault(tally, "Places 2;", 1, 0);
         fault(tally, "plaCes 2;", 1, 0);
@@ -237,6 +244,8 @@ final class LandTests {
         tally.begin("promises 3, 4, FAULT 3");
         fault(tally, "places 2;places 2;", 3, 9);
         fault(tally, "places 2; places", 3, 10);
+        fault(tally, "places 1;places 1;", 3, 9);
+        fault(tally, "places 1;way 0 0 1;", 4, 15);
         String ways = fullOfWays();
         fine(tally, ways, 10);
         fault(tally, ways + " way 1 7 1;", 3, ways.length() + 1);

@@ -22,6 +22,7 @@ final class StrangerTests {
         sayOfLike(tally);
         learnt(tally);
         learntByTwo(tally);
+        learntApart(tally);
         refusals(tally);
     }
 
@@ -199,6 +200,8 @@ final class StrangerTests {
             + "person 0 2 30 silent knows 3,2;person 0 2 30 silent knows 0,1,2;");
         say(tally, ways, 0, 2, 2, 2, 7);
         say(tally, ways, 1, 2, 0, 2, 4);
+        ToldWays back = Fed.landOf("places 2;way 0 1 3;person 1 0 9 whole knows 0;");
+        say(tally, back, 1, 0, 0, 0, 3);
         // Nobody is glad to go there; one is there; nobody is here.
         say(tally, ways, 0, 3, NONE, NONE, NONE);
         say(tally, ways, 0, 1, NONE, NONE, NONE);
@@ -291,6 +294,30 @@ final class StrangerTests {
         turned.learn(0, 2, true);
         turned.learn(0, 3, true);
         learnt(tally, turned, 0, 3, 10, NONE);
+    }
+
+    private static void learntApart(Tally tally) {
+        tally.begin("promise 20, what is not learnt is not known");
+        // PERSON 1 lacks the last WAY, 2 another one: neither alone is enough.
+        ToldWays last = Fed.landOf("places 5;way 0 1 3;way 2 3 5;way 3 4 1;way 1 2 4;person 0 0 0 first knows 0,1,3;person 1 0 0 first knows 1;"
+            + "person 2 0 0 first;");
+        learnt(tally, last, 0, 3, 12, 2, 1, 3, 2, 1);
+        // Each lacks one: three are too many.
+        ToldWays three = Fed.landOf("places 4;way 0 1 3;way 1 2 4;way 2 3 5;person 0 0 0 first knows 1,2;person 1 0 0 first knows 2;person 2 0 0 first;");
+        learnt(tally, three, 0, 3, 999, NONE);
+        learnt(tally, three, 1, 3, 9, 2, 1, 1, 2, 2);
+        // The END stays, but one comes there sooner: 10 and 10 minutes become 4 and 4.
+        ToldWays sooner = Fed.landOf("places 5;way 0 3 5;way 3 1 5;way 1 4 5;way 4 2 5;way 1 2 4;way 0 1 4;person 0 1 9 errand knows 0,1,2,3;"
+            + "person 1 0 0 whole knows 2,3;");
+        learnt(tally, sooner, 0, 2, 20, 0);
+        learnt(tally, sooner, 0, 2, 19, 1, 0, 5);
+        learnt(tally, sooner, 0, 2, 14, 1, 0, 5);
+        learnt(tally, sooner, 0, 2, 13, 2, 0, 5, 1, 4);
+        learnt(tally, sooner, 0, 2, 8, 2, 0, 5, 1, 4);
+        learnt(tally, sooner, 0, 2, 7, NONE);
+        // As many minutes to another END, where somebody lacks one WAY.
+        ToldWays other = Fed.landOf("places 5;way 0 1 5;way 1 4 9;way 0 2 5;way 2 4 3;person 0 0 0 first knows 0,1,3;person 2 0 0 whole;");
+        learnt(tally, other, 0, 4, 999, 2, 0, 2, 1, 3);
     }
 
     private static void refusals(Tally tally) {
