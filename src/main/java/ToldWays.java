@@ -1011,11 +1011,14 @@ public final class ToldWays {
             lostOdds = 0;
             longest = NONE;
             sum = 0;
-            castLots(this, a, 0, BILLION, 0);
+            castLots(this, a, 0, BILLION, 0, 0);
         }
 
-        /** Each level has one more PERSON who led: there are six at most. */
-        private static void castLots(Guides g, int here, int led, int odds, int gone) {
+        /** Each level has one more PERSON who led: so there are six levels at most below the first. */
+        private static void castLots(Guides g, int here, int led, int odds, int gone, int depth) {
+            if (depth > MOST_PERSONS) {
+                return;
+            }
             if (here == g.target) {
                 g.longest = Math.max(g.longest, gone);
                 g.sum += (long) odds * gone;
@@ -1033,7 +1036,7 @@ public final class ToldWays {
                     return;
                 }
                 int part = i == many - 1 ? odds - share * i : share;
-                castLots(g, at(g.ends, p), led | 1 << p, part, gone + at(g.minutes, p));
+                castLots(g, at(g.ends, p), led | 1 << p, part, gone + at(g.minutes, p), depth + 1);
             }
         }
     }

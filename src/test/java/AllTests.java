@@ -10,6 +10,10 @@ public final class AllTests {
         StrangerTests.run(tally);
         JournalTests.run(tally);
         ImageTests.run(tally);
+        LandEdgeTests.run(tally);
+        AskingEdgeTests.run(tally);
+        JournalEdgeTests.run(tally);
+        RefusalTests.run(tally);
         LanguageTests.run(tally, args.length > 0 ? args[0] : "src/main/java/ToldWays.java");
         ModelTests.run(tally);
         System.out.println(tally.counts());
