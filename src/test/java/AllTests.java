@@ -1,4 +1,4 @@
-/** Runs every test of the project; its argument is the path of ToldWays.java. */
+/** Runs every test of the project, in the project's folder; its argument is the path of ToldWays.java. */
 public final class AllTests {
     private AllTests() {
     }
@@ -15,6 +15,7 @@ public final class AllTests {
         JournalEdgeTests.run(tally);
         RefusalTests.run(tally);
         LanguageTests.run(tally, args.length > 0 ? args[0] : "src/main/java/ToldWays.java");
+        ReadmeTests.run(tally);
         ModelTests.run(tally);
         System.out.println(tally.counts());
         if (tally.wrong() != 0) {
